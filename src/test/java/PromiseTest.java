@@ -744,6 +744,11 @@ public final class PromiseTest {
         check.same("greatest", board(-0.0, -1, -0.0, -2, -0.0, -LEAST).greatest(), "-0");
         check.same("greatest, the last cell", board(-3, -1, -4, -2, -7, -0.5).greatest(), "-1*2^-1");
         check.same("greatest, the first cell", board(ENDLESS, 1, MOST).greatest(), "E");
+        for (int cell = 0; cell < 6; cell++) {
+            Exactdoubles board = board(-2, -2, -2, -2, -2, -2);
+            put(board, cell, -0.5);
+            check.same("greatest in cell " + cell, board.greatest(), "-1*2^-1");
+        }
     }
 
     void promise50() {
@@ -751,6 +756,11 @@ public final class PromiseTest {
         check.same("least", board(0, 1, 0, -0.0, ENDLESS, LEAST).least(), "-0");
         check.same("least, the last cell", board(3, 1, 4, 2, 7, 0.5).least(), "1*2^-1");
         check.same("least, the first cell", board(-ENDLESS, 1, -MOST).least(), "-E");
+        for (int cell = 0; cell < 6; cell++) {
+            Exactdoubles board = new Exactdoubles();
+            put(board, cell, -0.0);
+            check.same("least in cell " + cell, board.least(), "-0");
+        }
     }
 
     void promise51() {
