@@ -1,6 +1,3 @@
-import java.lang.reflect.InvocationTargetException;
-import java.lang.reflect.Method;
-
 /** Promise by promise: ordinary inputs, the edges that the document names, wrong inputs. */
 public final class PromiseTest {
     private static final int[] NO_CELLS = {-1, 6, Integer.MIN_VALUE, Integer.MAX_VALUE};
@@ -16,45 +13,26 @@ public final class PromiseTest {
 
     public static void main(String[] args) throws Exception {
         PromiseTest test = new PromiseTest();
-        int promises = 0;
-        for (Method method : PromiseTest.class.getDeclaredMethods()) {
-            if (method.getName().matches("promise\\d+")) {
-                promises++;
-                try {
-                    method.invoke(test);
-                } catch (InvocationTargetException e) {
-                    test.check.same(method.getName(), e.getCause(), "no exception");
-                }
-            }
-        }
-        test.check.same("promises tested", promises, 54);
+        test.check.same("promises tested", test.check.runTests(test), 54);
         test.check.finish();
     }
 
     // ---- what the tests share
 
-    /** A board with these numbers in its first cells. */
     private static Exactdoubles board(double... numbers) {
-        Exactdoubles board = new Exactdoubles();
-        for (int cell = 0; cell < numbers.length; cell++) {
-            put(board, cell, numbers[cell]);
-        }
-        return board;
+        return Boards.with(numbers);
     }
 
     private static void put(Exactdoubles board, int cell, double number) {
-        long digits = Double.doubleToRawLongBits(number);
-        board.bits(cell, (int) (digits >> 32), (int) digits);
+        Boards.put(board, cell, number);
     }
 
-    /** The digits of a cell, put together. */
     private static long digits(Exactdoubles board, int cell) {
-        return (long) board.digits(cell, 0) << 63 | (long) board.digits(cell, 1) << 52
-            | (long) board.digits(cell, 2) << 32 | board.digits(cell, 3) & 0xffffffffL;
+        return Boards.digits(board, cell);
     }
 
     private void has(String what, Exactdoubles board, int cell, double due) {
-        check.same(what + ", cell " + cell, Double.longBitsToDouble(digits(board, cell)), due);
+        check.same(what + ", cell " + cell, Boards.number(board, cell), due);
     }
 
     private void noCell(String what, CellCall call) {
