@@ -14,12 +14,13 @@ public final class DigestTest {
         {0x1p63, -0x1p63, 0x1p31, -0x1p31, 0x1p63 - 0x1p10, 0x1p31 - 0.5},
         {Boards.LEAST, -Boards.LEAST, Boards.NORMAL, -Boards.NORMAL, Boards.NORMAL - Boards.LEAST, 0},
         {1, 1 + 0x1p-52, 1 + 40 * 0x1p-52, 1 + 41 * 0x1p-52, 1 - 0x1p-53, 0.5},
+        {-0.75, 9.5, 0.25, -9.5, 99.75, -0.5},
     };
 
     /** The digests of these boards, worked out once over exact fractions, with no code of this project. */
     private static final long[] DIGESTS = {
         -7399719974947075021L, 7249015568076726054L, 5860153251882037915L, -3151959614080644053L, -5882479633134117089L,
-        7194175870349364517L, 6929618552833784006L, -7995304358611305664L
+        7194175870349364517L, 6929618552833784006L, -7995304358611305664L, -8572394356079667550L
     };
 
     private final Check check = new Check("DigestTest");

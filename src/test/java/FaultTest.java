@@ -1,0 +1,165 @@
+import java.io.ByteArrayOutputStream;
+import java.io.OutputStream;
+import java.lang.reflect.Method;
+import java.net.URI;
+import java.nio.file.Files;
+import java.nio.file.Path;
+import java.util.HashMap;
+import java.util.List;
+import java.util.Map;
+import javax.tools.FileObject;
+import javax.tools.ForwardingJavaFileManager;
+import javax.tools.JavaCompiler;
+import javax.tools.JavaFileManager;
+import javax.tools.JavaFileObject;
+import javax.tools.SimpleJavaFileObject;
+import javax.tools.StandardJavaFileManager;
+import javax.tools.ToolProvider;
+
+/**
+ * Promise 53 where it is false. No call of a right program leads there, so a fault is put into a copy of the program,
+ * one for each thing that isSound() names, and isSound() of the copy has to see it. A fault stands on the program's
+ * text: where that text is no longer so, the fault is told as left out, and wants to be written anew.
+ */
+public final class FaultTest {
+    private static final Path SOURCE = Path.of("src/main/java/Exactdoubles.java");
+    private static final double ENDLESS = Boards.ENDLESS;
+    private static final String FLOOR = "Form.aheadIn(number) + (Form.isDownOne(number) ? 1 : 0)";
+    private static final String CEIL = "Form.aheadIn(number) + (Form.isDownOne(number) ? 0 : 1)";
+    private static final String UP = "return Form.isDownOne(number) ? number - 1 : number + 1;";
+    private static final String DOWN = "return Form.isDownOne(number) ? number + 1 : number - 1;";
+
+    private static final Check CHECK = new Check("FaultTest");
+    private static int leftOut;
+
+    private final String source;
+
+    private FaultTest(String source) {
+        this.source = source;
+    }
+
+    public static void main(String[] args) throws Exception {
+        FaultTest tests = new FaultTest(Files.readString(SOURCE));
+        CHECK.isTrue("no fault, sound", isSound(tests.source, -2.75, -1.5, 0.5, 1, Boards.MOST, -ENDLESS));
+        tests.wholes();
+        tests.neighbours();
+        tests.parts();
+        tests.eachTwo();
+        System.out.println("FaultTest: " + leftOut + " faults left out");
+        CHECK.finish();
+    }
+
+    private void wholes() throws Exception {
+        fault("FLOOR is above it, and CEIL below it", numbers(0.5), FLOOR, "(Form.aheadIn(number)) + (Form.isDownOne(number) ? 0 : 1)",
+            CEIL, "(Form.aheadIn(number)) + (Form.isDownOne(number) ? 1 : 0)");
+        fault("FLOOR is not CEIL of what is turned round", numbers(-0.5), FLOOR, FLOOR.replace("? 1", "? 2"));
+        fault("CEIL is not FLOOR of what is turned round", numbers(0.5), CEIL, CEIL.replace(": 1", ": 2"));
+        fault("RINT is none of both", numbers(0.75), "Scale.halvedOften(Form.factorIn(number), Form.behindIn(number))",
+            "2 + Scale.halvedOften(Form.factorIn(number), Form.behindIn(number))");
+        fault("RINT is farther from it", numbers(0.75), "Scale.halvedOften(Form.factorIn(number), Form.behindIn(number))",
+            "Form.aheadIn(number)");
+        fault("RINT is farther from it, down", numbers(-0.25), "Scale.halvedOften(Form.factorIn(number), Form.behindIn(number))",
+            "1 + Form.aheadIn(number)");
+    }
+
+    private void neighbours() throws Exception {
+        fault("UP and then DOWN does not lead back", numbers(1), UP, UP.replace("+ 1", "+ 2"), DOWN, DOWN.replace("+ 1", "+ 2"));
+        String two = "- (Form.sizeIn(number) == 1 ? 1 : 2)";
+        fault("DOWN and then UP does not lead back", numbers(1), UP, UP.replace("- 1", two), DOWN, DOWN.replace("- 1", two));
+        fault("UP is not DOWN of what is turned round", numbers(-Boards.LEAST), DOWN,
+            "return number == 1 ? Form.SIDE_DIGIT : Form.isDownOne(number) ? number + 1 : number - 1;");
+        fault("DOWN is not UP of what is turned round", numbers(Boards.LEAST), UP,
+            "return number == (1 | Form.SIDE_DIGIT) ? 0 : Form.isDownOne(number) ? number - 1 : number + 1;");
+    }
+
+    private void parts() throws Exception {
+        fault("size and side put together are another", numbers(-1), "return sizeIn(ofSize) | (ofSide & SIDE_DIGIT);",
+            "return sizeIn(ofSize);");
+        fault("STEP is another of what is turned round", numbers(ENDLESS), "return Form.ENDLESS;\n            }\n            return Scale",
+            "return number;\n            }\n            return Scale");
+        fault("DIGITS put together are another", numbers(0x1.00000ffffffffp0), "return (int) lowIn(number);",
+            "return (int) lowIn(number) & ~(1 << 31);");
+    }
+
+    private void eachTwo() throws Exception {
+        String floorFault = "(Form.isDownOne(number) ? Form.aheadIn(number) + 1 : Form.aheadIn(number) & ~2L)";
+        String ceilFault = "(Form.isDownOne(number) ? Form.aheadIn(number) & ~2L : Form.aheadIn(number) + 1)";
+        fault("FLOOR comes behind", numbers(1.5, 2.75), FLOOR, floorFault, CEIL, ceilFault);
+        fault("CEIL comes behind", numbers(-2.75, -1.5), FLOOR, floorFault, CEIL, ceilFault);
+        fault("SIGN comes behind", numbers(7, 7.5), "Form.sizeIn(number) == 0 ? number : Form.joined(Form.ONE, number)",
+            "Form.restIn(number) == 0 ? number : Form.joined(Form.ONE, number)");
+        fault("TIMES 2^5 comes behind", numbers(1, 0x1p1019), "return Form.ENDLESS;\n            }\n            return ((long) high",
+            "return 0;\n            }\n            return ((long) high");
+        fault("ROUND is greater", numbers(-ENDLESS), "return Form.isDownOne(number) ? LEAST : MOST;", "return MOST;");
+        fault("the greater and the lesser one are not both", numbers(1, 2), "return rankIn(one) >= rankIn(other) ? one : other;",
+            "return one;");
+    }
+
+    private static double[] numbers(double... numbers) {
+        return numbers;
+    }
+
+    /** Puts each second text in the place of the one ahead of it. */
+    private void fault(String what, double[] numbers, String... texts) throws Exception {
+        String faulty = source;
+        for (int at = 0; at < texts.length; at += 2) {
+            if (!faulty.contains(texts[at])) {
+                leftOut++;
+                System.out.println("FaultTest: left out, for its text is not there: " + what);
+                return;
+            }
+            faulty = faulty.replace(texts[at], texts[at + 1]);
+        }
+        CHECK.same(what + ", sound", isSound(faulty, numbers), false);
+        CHECK.isTrue(what + ", sound where it does not show", isSound(faulty));
+    }
+
+    private static boolean isSound(String source, double... numbers) throws Exception {
+        Class<?> type = new Compiled(source).loadClass("Exactdoubles");
+        Object board = type.getConstructor().newInstance();
+        Method bits = type.getMethod("bits", int.class, int.class, int.class);
+        for (int cell = 0; cell < numbers.length; cell++) {
+            long digits = Double.doubleToRawLongBits(numbers[cell]);
+            bits.invoke(board, cell, (int) (digits >> 32), (int) digits);
+        }
+        return (Boolean) type.getMethod("isSound").invoke(board);
+    }
+
+    /** The classes of a source, compiled without a file. */
+    private static final class Compiled extends ClassLoader {
+        private final Map<String, ByteArrayOutputStream> classes = new HashMap<>();
+
+        Compiled(String source) {
+            super(ClassLoader.getPlatformClassLoader());
+            JavaCompiler compiler = ToolProvider.getSystemJavaCompiler();
+            StandardJavaFileManager files = compiler.getStandardFileManager(null, null, null);
+            JavaFileObject file = new SimpleJavaFileObject(URI.create("string:///Exactdoubles.java"), JavaFileObject.Kind.SOURCE) {
+                @Override
+                public CharSequence getCharContent(boolean ignored) {
+                    return source;
+                }
+            };
+            JavaFileManager kept = new ForwardingJavaFileManager<>(files) {
+                @Override
+                public JavaFileObject getJavaFileForOutput(Location in, String name, JavaFileObject.Kind kind, FileObject beside) {
+                    return new SimpleJavaFileObject(URI.create("bytes:///" + name), kind) {
+                        @Override
+                        public OutputStream openOutputStream() {
+                            return classes.computeIfAbsent(name, ignored -> new ByteArrayOutputStream());
+                        }
+                    };
+                }
+            };
+            CHECK.isTrue("the copy compiles", compiler.getTask(null, kept, null, List.of("-proc:none"), null, List.of(file)).call());
+        }
+
+        @Override
+        protected Class<?> findClass(String name) throws ClassNotFoundException {
+            ByteArrayOutputStream bytes = classes.get(name);
+            if (bytes == null) {
+                throw new ClassNotFoundException(name);
+            }
+            return defineClass(name, bytes.toByteArray(), 0, bytes.size());
+        }
+    }
+}
