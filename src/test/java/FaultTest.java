@@ -1,20 +1,6 @@
-import java.io.ByteArrayOutputStream;
-import java.io.OutputStream;
 import java.lang.reflect.Method;
-import java.net.URI;
 import java.nio.file.Files;
 import java.nio.file.Path;
-import java.util.HashMap;
-import java.util.List;
-import java.util.Map;
-import javax.tools.FileObject;
-import javax.tools.ForwardingJavaFileManager;
-import javax.tools.JavaCompiler;
-import javax.tools.JavaFileManager;
-import javax.tools.JavaFileObject;
-import javax.tools.SimpleJavaFileObject;
-import javax.tools.StandardJavaFileManager;
-import javax.tools.ToolProvider;
 
 /**
  * Promise 53 where it is false. No call of a right program leads there, so a fault is put into a copy of the program,
@@ -28,6 +14,13 @@ public final class FaultTest {
     private static final String CEIL = "Form.aheadIn(number) + (Form.isDownOne(number) ? 0 : 1)";
     private static final String UP = "return Form.isDownOne(number) ? number - 1 : number + 1;";
     private static final String DOWN = "return Form.isDownOne(number) ? number + 1 : number - 1;";
+    /** 1 and 2 change places for UP and DOWN, which still lead back to each other: so only the ORDER tells. */
+    private static final String[] CROSSED = {
+        UP, "return Form.isDownOne(number) ? crossed(number - 1) : crossed(number) + 1;",
+        DOWN, "return Form.isDownOne(number) ? crossed(number) + 1 : crossed(number - 1);",
+        "static long floorFrom(", "static long crossed(long number) { long size = Form.sizeIn(number); long two = Form.ONE + Form.FIRST_DIGIT;"
+            + " return Form.joined(size == Form.ONE ? two : size == two ? Form.ONE : size, number); } static long floorFrom("
+    };
 
     private static final Check CHECK = new Check("FaultTest");
     private static int leftOut;
@@ -91,6 +84,8 @@ public final class FaultTest {
         fault("TIMES 2^5 comes behind", numbers(1, 0x1p1019), "return Form.ENDLESS;\n            }\n            return ((long) high",
             "return 0;\n            }\n            return ((long) high");
         fault("ROUND is greater", numbers(-ENDLESS), "return Form.isDownOne(number) ? LEAST : MOST;", "return MOST;");
+        fault("UP comes behind", numbers(1, 2), CROSSED);
+        fault("DOWN comes behind", numbers(-2, -1), CROSSED);
         fault("the greater and the lesser one are not both", numbers(1, 2), "return rankIn(one) >= rankIn(other) ? one : other;",
             "return one;");
     }
@@ -115,7 +110,9 @@ public final class FaultTest {
     }
 
     private static boolean isSound(String source, double... numbers) throws Exception {
-        Class<?> type = new Compiled(source).loadClass("Exactdoubles");
+        Compiled copy = new Compiled(source);
+        CHECK.isTrue("the copy compiles", copy.isWhole());
+        Class<?> type = copy.loadClass("Exactdoubles");
         Object board = type.getConstructor().newInstance();
         Method bits = type.getMethod("bits", int.class, int.class, int.class);
         for (int cell = 0; cell < numbers.length; cell++) {
@@ -123,43 +120,5 @@ public final class FaultTest {
             bits.invoke(board, cell, (int) (digits >> 32), (int) digits);
         }
         return (Boolean) type.getMethod("isSound").invoke(board);
-    }
-
-    /** The classes of a source, compiled without a file. */
-    private static final class Compiled extends ClassLoader {
-        private final Map<String, ByteArrayOutputStream> classes = new HashMap<>();
-
-        Compiled(String source) {
-            super(ClassLoader.getPlatformClassLoader());
-            JavaCompiler compiler = ToolProvider.getSystemJavaCompiler();
-            StandardJavaFileManager files = compiler.getStandardFileManager(null, null, null);
-            JavaFileObject file = new SimpleJavaFileObject(URI.create("string:///Exactdoubles.java"), JavaFileObject.Kind.SOURCE) {
-                @Override
-                public CharSequence getCharContent(boolean ignored) {
-                    return source;
-                }
-            };
-            JavaFileManager kept = new ForwardingJavaFileManager<>(files) {
-                @Override
-                public JavaFileObject getJavaFileForOutput(Location in, String name, JavaFileObject.Kind kind, FileObject beside) {
-                    return new SimpleJavaFileObject(URI.create("bytes:///" + name), kind) {
-                        @Override
-                        public OutputStream openOutputStream() {
-                            return classes.computeIfAbsent(name, ignored -> new ByteArrayOutputStream());
-                        }
-                    };
-                }
-            };
-            CHECK.isTrue("the copy compiles", compiler.getTask(null, kept, null, List.of("-proc:none"), null, List.of(file)).call());
-        }
-
-        @Override
-        protected Class<?> findClass(String name) throws ClassNotFoundException {
-            ByteArrayOutputStream bytes = classes.get(name);
-            if (bytes == null) {
-                throw new ClassNotFoundException(name);
-            }
-            return defineClass(name, bytes.toByteArray(), 0, bytes.size());
-        }
     }
 }
