@@ -38,6 +38,8 @@ public final class FaultTest {
         tests.neighbours();
         tests.parts();
         tests.eachTwo();
+        tests.byValues();
+        tests.digestOfWhatIsNotSound();
         System.out.println("FaultTest: " + leftOut + " faults left out");
         CHECK.finish();
     }
@@ -59,6 +61,10 @@ public final class FaultTest {
         fault("UP and then DOWN does not lead back", numbers(1), UP, UP.replace("+ 1", "+ 2"), DOWN, DOWN.replace("+ 1", "+ 2"));
         String two = "- (Form.sizeIn(number) == 1 ? 1 : 2)";
         fault("DOWN and then UP does not lead back", numbers(1), UP, UP.replace("- 1", two), DOWN, DOWN.replace("- 1", two));
+        String far = "(Form.sizeIn(number) == Form.ONE ? 2 : 1)";
+        String[] skips = {UP, UP.replace("+ 1", "+ " + far), DOWN, DOWN.replace("+ 1", "+ " + far)};
+        fault("UP and then DOWN alone does not lead back", numbers(1), skips);
+        fault("DOWN and then UP alone does not lead back", numbers(-1), skips);
         fault("UP is not DOWN of what is turned round", numbers(-Boards.LEAST), DOWN,
             "return number == 1 ? Form.SIDE_DIGIT : Form.isDownOne(number) ? number + 1 : number - 1;");
         fault("DOWN is not UP of what is turned round", numbers(Boards.LEAST), UP,
@@ -85,40 +91,93 @@ public final class FaultTest {
             "return 0;\n            }\n            return ((long) high");
         fault("ROUND is greater", numbers(-ENDLESS), "return Form.isDownOne(number) ? LEAST : MOST;", "return MOST;");
         fault("UP comes behind", numbers(1, 2), CROSSED);
+        fault("UP comes behind, the cells the other way", numbers(2, 1), CROSSED);
         fault("DOWN comes behind", numbers(-2, -1), CROSSED);
+        fault("DOWN comes behind, the cells the other way", numbers(-1, -2), CROSSED);
+        String times = "static long timesPower(long number, int k) {";
+        fault("TIMES 2^5 alone comes behind", numbers(1, 2), times, times + " if (k == 5 && number == Form.ONE) { return Form.ENDLESS; }");
         fault("the greater and the lesser one are not both", numbers(1, 2), "return rankIn(one) >= rankIn(other) ? one : other;",
             "return one;");
+    }
+
+    /** The two of the VALUE 0 may change places, for what is taken is in order by VALUES. */
+    private void byValues() throws Exception {
+        String whole = "return Form.joined(Scale.nearestTo(whole, 0), number);";
+        String turned = whole.replace("number)", "whole == 0 ? Form.turned(number) : number)");
+        stays("FLOOR that is 0 turned round", numbers(0.0, 0.5), whole, turned);
+        stays("CEIL that is 0 turned round", numbers(-0.5, -0.0), whole, turned);
+        stays("RINT that is 0 turned round", numbers(0.0, 0.25, -0.25, -0.0), whole, turned);
+        stays("SIGN of 0 turned round", numbers(-0.0, 0.0), "Form.sizeIn(number) == 0 ? number", "Form.sizeIn(number) == 0 ? Form.turned(number)");
+        stays("SIGN of 0 that is 1, which -0 comes ahead of", numbers(0.0, -0.0), "Form.sizeIn(number) == 0 ? number",
+            "number == 0 ? Form.ONE : Form.sizeIn(number) == 0 ? number");
+        String zero = "if (Form.sizeIn(number) == 0 || Form.isEndlessOne(number)) {\n                return ";
+        stays("TIMES 2^5 of 0 turned round", numbers(-0.0, 0.0), zero, zero + "Form.sizeIn(number) == 0 ? Form.turned(number) : ");
+    }
+
+    /** Promise 54's last value: of a copy in which nothing but isSound() is another, the digest is one less. */
+    private void digestOfWhatIsNotSound() throws Exception {
+        String head = "boolean holdsFor(long[] numbers) {";
+        CHECK.isTrue("there is " + head, source.contains(head));
+        Class<?> type = compiled(source.replace(head, head + " if (numbers[0] == Form.ONE) { return false; }"));
+        Object board = with(type, 1, 2.5);
+        CHECK.same("sound", type.getMethod("isSound").invoke(board), false);
+        CHECK.same("its digest", type.getMethod("digest").invoke(board), Boards.with(1, 2.5).digest() - 1);
+        board = with(type, 2.5, 1);
+        CHECK.same("sound", type.getMethod("isSound").invoke(board), true);
+        CHECK.same("its digest", type.getMethod("digest").invoke(board), Boards.with(2.5, 1).digest());
     }
 
     private static double[] numbers(double... numbers) {
         return numbers;
     }
 
-    /** Puts each second text in the place of the one ahead of it. */
     private void fault(String what, double[] numbers, String... texts) throws Exception {
+        String faulty = changed(what, texts);
+        if (!faulty.isEmpty()) {
+            CHECK.same(what + ", sound", isSound(faulty, numbers), false);
+            CHECK.isTrue(what + ", sound where it does not show", isSound(faulty));
+        }
+    }
+
+    private void stays(String what, double[] numbers, String... texts) throws Exception {
+        String faulty = changed(what, texts);
+        if (!faulty.isEmpty()) {
+            CHECK.isTrue(what + ", sound", isSound(faulty, numbers));
+        }
+    }
+
+    /** Puts each second text in the place of the one ahead of it; empty, if one is not there. */
+    private String changed(String what, String... texts) {
         String faulty = source;
         for (int at = 0; at < texts.length; at += 2) {
             if (!faulty.contains(texts[at])) {
                 leftOut++;
                 System.out.println("FaultTest: left out, for its text is not there: " + what);
-                return;
+                return "";
             }
             faulty = faulty.replace(texts[at], texts[at + 1]);
         }
-        CHECK.same(what + ", sound", isSound(faulty, numbers), false);
-        CHECK.isTrue(what + ", sound where it does not show", isSound(faulty));
+        return faulty;
     }
 
     private static boolean isSound(String source, double... numbers) throws Exception {
+        Class<?> type = compiled(source);
+        return (Boolean) type.getMethod("isSound").invoke(with(type, numbers));
+    }
+
+    private static Class<?> compiled(String source) throws Exception {
         Compiled copy = new Compiled(source);
         CHECK.isTrue("the copy compiles", copy.isWhole());
-        Class<?> type = copy.loadClass("Exactdoubles");
+        return copy.loadClass("Exactdoubles");
+    }
+
+    private static Object with(Class<?> type, double... numbers) throws Exception {
         Object board = type.getConstructor().newInstance();
         Method bits = type.getMethod("bits", int.class, int.class, int.class);
         for (int cell = 0; cell < numbers.length; cell++) {
             long digits = Double.doubleToRawLongBits(numbers[cell]);
             bits.invoke(board, cell, (int) (digits >> 32), (int) digits);
         }
-        return (Boolean) type.getMethod("isSound").invoke(board);
+        return board;
     }
 }

@@ -1,5 +1,6 @@
 import java.lang.reflect.InvocationTargetException;
 import java.lang.reflect.Method;
+import java.lang.reflect.Modifier;
 import java.util.ArrayList;
 import java.util.Arrays;
 import java.util.Comparator;
@@ -10,6 +11,10 @@ import java.util.Random;
 public final class ModelTest {
     private static final int RUNS = 3000;
     private static final int CALLS = 120;
+    private static final int LONG_RUNS = 100;
+    /** As often as the document lets an object be used; the digest at a run's end is one of them. */
+    private static final int MOST_CALLS = 512;
+    private static final int BOARDS = 3;
     private static final int[] EXTREMES = {
         Integer.MIN_VALUE, Integer.MIN_VALUE + 1, Integer.MAX_VALUE, -1, 0, 1, 1 << 20, 1 << 30, -(1 << 20)
     };
@@ -27,35 +32,63 @@ public final class ModelTest {
         Method[] methods = Exactdoubles.class.getDeclaredMethods();
         Arrays.sort(methods, Comparator.comparing(Method::getName));
         for (Method method : methods) {
-            if (java.lang.reflect.Modifier.isPublic(method.getModifiers())) {
+            if (Modifier.isPublic(method.getModifiers())) {
                 own.add(method);
                 due.add(Model.class.getDeclaredMethod(method.getName(), method.getParameterTypes()));
             }
         }
         for (int i = 0; i < RUNS; i++) {
-            oneRun(i);
+            oneRun("run " + i, CALLS);
+        }
+        for (int i = 0; i < LONG_RUNS; i++) {
+            oneRun("long run " + i, MOST_CALLS - Boards.CELLS - 1);
+        }
+        for (int i = 0; i < LONG_RUNS; i++) {
+            besideOneAnother("boards " + i);
         }
         check.finish();
     }
 
-    private void oneRun(int run) throws Exception {
+    private void oneRun(String run, int calls) throws Exception {
         Exactdoubles board = new Exactdoubles();
         Model model = new Model();
         fill(board, model);
-        for (int i = 0; i < CALLS; i++) {
-            int at = random.nextInt(own.size());
-            Object[] arguments = argumentsFor(own.get(at));
-            Object got = answer(own.get(at), board, arguments);
-            Object want = answer(due.get(at), model, arguments);
-            check.same("run " + run + " call " + i + ": " + own.get(at).getName() + Arrays.toString(arguments), got, want);
+        for (int i = 0; i < calls; i++) {
+            oneCall(run + " call " + i, board, model);
         }
-        check.same("run " + run + ": digest()", board.digest(), model.digest());
+        check.same(run + ": digest()", board.digest(), model.digest());
+    }
+
+    /** No board may see what is done on another one. */
+    private void besideOneAnother(String run) throws Exception {
+        Exactdoubles[] boards = new Exactdoubles[BOARDS];
+        Model[] models = new Model[BOARDS];
+        for (int i = 0; i < BOARDS; i++) {
+            boards[i] = new Exactdoubles();
+            models[i] = new Model();
+            fill(boards[i], models[i]);
+        }
+        for (int i = 0; i < BOARDS * CALLS; i++) {
+            int one = random.nextInt(BOARDS);
+            oneCall(run + " call " + i + " on " + one, boards[one], models[one]);
+        }
+        for (int i = 0; i < BOARDS; i++) {
+            check.same(run + ": digest() of " + i, boards[i].digest(), models[i].digest());
+        }
+    }
+
+    private void oneCall(String where, Exactdoubles board, Model model) throws Exception {
+        int at = random.nextInt(own.size());
+        Object[] arguments = argumentsFor(own.get(at));
+        Object got = answer(own.get(at), board, arguments);
+        Object want = answer(due.get(at), model, arguments);
+        check.same(where + ": " + own.get(at).getName() + Arrays.toString(arguments), got, want);
     }
 
     /** Numbers near one another and near the edges, for else most questions have dull answers. */
     private void fill(Exactdoubles board, Model model) {
         long base = edge();
-        for (int cell = 0; cell < 6; cell++) {
+        for (int cell = 0; cell < Boards.CELLS; cell++) {
             long bits = random.nextInt(3) == 0 ? edge() : base + random.nextInt(81) - 40;
             check.same("bits", board.bits(cell, (int) (bits >> 32), (int) bits),
                 model.bits(cell, (int) (bits >> 32), (int) bits));
